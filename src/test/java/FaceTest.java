@@ -1,0 +1,136 @@
+import java.lang.reflect.Constructor;
+import java.lang.reflect.Field;
+import java.lang.reflect.Method;
+import java.lang.reflect.Modifier;
+import java.nio.file.Files;
+import java.nio.file.Path;
+import java.util.ArrayList;
+import java.util.Arrays;
+import java.util.List;
+import java.util.Set;
+import java.util.TreeSet;
+
+/** The public face is the document's and no more, and the source keeps to what LANGUAGE.md leaves. */
+public final class FaceTest {
+    private static final Check CHECK = new Check();
+
+    private static final String[] FACE = {
+        "int feed(int,int,int,int,int)", "int office(int)", "int fault()", "int count(int)", "int sheet(int,int)",
+        "int clerk(int,int)", "int word(int,int)", "int town(int,int)", "int days(int)", "boolean take(int,int)",
+        "int leave(int,int)", "int forge(int,int,int)", "int fire(int)", "int undo()", "int then(int,int,int)",
+        "int where(int,int)", "int first(int,int)", "int read(int,int)", "int mould(int)", "int meet(int,int)",
+        "int gathering(int)", "int row(int)", "int toForge(int,int)", "int toSave(int)", "int toRead()",
+        "int chain(int,int)", "int hear(int,int,int,boolean)", "void forget()", "int borne(int)", "int ask(int)",
+        "int fires(int,int)", "int game(int,int,int)", "int years(int,int,int)", "int wisest(int)",
+        "int company(int,int,int)", "int together(int)", "int odd(int)", "int far(int,int)", "int unread(int)",
+        "int heir(int)", "int laid(int)", "void image()", "boolean restore()"};
+
+    public static void main(String[] args) throws Exception {
+        members();
+        inside();
+        if (args.length > 0) {
+            source(Files.readString(Path.of(args[0])));
+        }
+        CHECK.end();
+    }
+
+    private static void members() throws Exception {
+        CHECK.is("the class is public and final", TwinInk.class.getModifiers(), Modifier.PUBLIC | Modifier.FINAL);
+        Set<String> due = new TreeSet<>(Arrays.asList(FACE));
+        Set<String> names = new TreeSet<>();
+        for (Method m : TwinInk.class.getDeclaredMethods()) {
+            if (Modifier.isPublic(m.getModifiers())) {
+                names.add(m.getName());
+                CHECK.is(shape(m) + " is the document's", due.remove(shape(m)), true);
+                CHECK.is(shape(m) + " is no static one", Modifier.isStatic(m.getModifiers()), false);
+            }
+        }
+        for (String missing : due) {
+            CHECK.is(missing + " is there", false, true);
+        }
+        for (Method m : TwinInk.class.getDeclaredMethods()) {
+            if (!Modifier.isPublic(m.getModifiers()) && !m.isSynthetic()) {
+                CHECK.is(m.getName() + " is private", Modifier.isPrivate(m.getModifiers()), true);
+                CHECK.is(m.getName() + " has a name of its own", names.contains(m.getName()), false);
+                CHECK.is(m.getName() + " has seven parameters at most", m.getParameterCount() <= 7, true);
+            }
+        }
+        for (Field f : TwinInk.class.getDeclaredFields()) {
+            boolean isFace = f.getName().equals("NONE");
+            CHECK.is(f.getName() + " is public", Modifier.isPublic(f.getModifiers()), isFace);
+            CHECK.is(f.getName() + " is private", Modifier.isPrivate(f.getModifiers()), !isFace);
+        }
+        Constructor<?>[] made = TwinInk.class.getDeclaredConstructors();
+        CHECK.is("one constructor", made.length, 1);
+        CHECK.is("it is public", Modifier.isPublic(made[0].getModifiers()), true);
+        CHECK.is("it takes nothing", made[0].getParameterCount(), 0);
+        CHECK.is("NONE", TwinInk.class.getField("NONE").getInt(null), -1);
+        CHECK.is("NONE is final", Modifier.isFinal(TwinInk.class.getField("NONE").getModifiers()), true);
+    }
+
+    private static String shape(Method m) {
+        List<String> types = new ArrayList<>();
+        for (Class<?> type : m.getParameterTypes()) {
+            types.add(type.getSimpleName());
+        }
+        return m.getReturnType().getSimpleName() + " " + m.getName() + "(" + String.join(",", types) + ")";
+    }
+
+    private static void inside() {
+        Class<?>[] classes = TwinInk.class.getDeclaredClasses();
+        CHECK.is("at most twelve classes", classes.length < 12, true);
+        List<Class<?>> all = new ArrayList<>(Arrays.asList(classes));
+        all.add(TwinInk.class);
+        for (Class<?> c : all) {
+            if (c != TwinInk.class) {
+                CHECK.is(c.getName() + " is static", Modifier.isStatic(c.getModifiers()), true);
+                CHECK.is(c.getName() + " isn't public", Modifier.isPublic(c.getModifiers()), false);
+            }
+            int fields = 0;
+            for (Field f : c.getDeclaredFields()) {
+                if (Modifier.isStatic(f.getModifiers())) {
+                    CHECK.is(f + " is final", Modifier.isFinal(f.getModifiers()), true);
+                } else {
+                    fields++;
+                }
+            }
+            CHECK.is(c.getName() + " has some twenty fields at most", fields <= 20, true);
+        }
+    }
+
+    private static void source(String text) {
+        String code = text.replaceAll("(?s)/\\*.*?\\*/", "").replaceAll("//[^\n]*", "");
+        String[] outside = {"try", "catch", "finally", "synchronized", "assert", "->", "::", "System.currentTimeMillis",
+            "System.nanoTime", "Random", "Math.random", "String.format", "equals(", "hashCode", "toString", "Exact",
+            "instanceof", "extends", "while (true)", "for (;;)", "import java.util.*"};
+        for (String word : outside) {
+            CHECK.is("'" + word + "' stands in the source", code.contains(word), false);
+        }
+        for (String line : code.split("\n")) {
+            if (line.startsWith("import ")) {
+                boolean may = line.equals("import java.util.Arrays;") || line.equals("import java.util.NoSuchElementException;");
+                CHECK.is(line + " is one of the library's", may, true);
+            }
+            if (line.contains("throw new ")) {
+                boolean may = line.contains("throw new IllegalArgumentException(\"")
+                    || line.contains("throw new NoSuchElementException(\"");
+                CHECK.is(line.trim() + " is one of the document's", may, true);
+            }
+        }
+        CHECK.is("signs 1 to 127 alone", text.chars().allMatch(c -> c > 0 && c < 128), true);
+        methodsAreShort(code);
+    }
+
+    private static void methodsAreShort(String code) {
+        int begun = -1;
+        String[] lines = code.split("\n");
+        for (int i = 0; i < lines.length; i++) {
+            if (lines[i].matches(" {4,8}[a-z].*\\) \\{")) {
+                begun = i;
+            } else if (lines[i].matches(" {4,8}\\}") && begun >= 0) {
+                CHECK.is(lines[begun].trim() + " is short", i - begun <= 60, true);
+                begun = -1;
+            }
+        }
+    }
+}
