@@ -76,7 +76,7 @@ public final class TwinInk {
         }
     }
 
-    public int office(int n) {
+    public int office(int n) throws IllegalArgumentException {
         if (n < 0 || n > tapeLength) {
             throw new IllegalArgumentException("the tape has not so many bytes");
         }
@@ -107,7 +107,7 @@ public final class TwinInk {
 
     // ---- what is there now
 
-    public int count(int what) {
+    public int count(int what) throws NoSuchElementException {
         switch (what) {
             case 0: return told.sheets;
             case 1: return told.clerks;
@@ -130,7 +130,7 @@ public final class TwinInk {
         }
     }
 
-    public int sheet(int sheet, int what) {
+    public int sheet(int sheet, int what) throws NoSuchElementException {
         needSheet(sheet);
         switch (what) {
             case 0: return now.left[sheet];
@@ -142,7 +142,7 @@ public final class TwinInk {
         }
     }
 
-    public int clerk(int clerk, int what) {
+    public int clerk(int clerk, int what) throws NoSuchElementException {
         needClerk(clerk);
         switch (what) {
             case 0: return told.townOn(clerk, now.day);
@@ -153,7 +153,7 @@ public final class TwinInk {
         }
     }
 
-    public int word(int word, int what) {
+    public int word(int word, int what) throws NoSuchElementException {
         needWord(word);
         switch (what) {
             case 0: return told.wordLeft[word];
@@ -164,7 +164,7 @@ public final class TwinInk {
         }
     }
 
-    public int town(int town, int what) {
+    public int town(int town, int what) throws NoSuchElementException {
         needTown(town);
         switch (what) {
             case 0: return now.archive(town);
@@ -188,7 +188,7 @@ public final class TwinInk {
         return now.day;
     }
 
-    public boolean take(int clerk, int sheet) {
+    public boolean take(int clerk, int sheet) throws NoSuchElementException {
         needClerk(clerk);
         needSheet(sheet);
         if (now.place[sheet] != told.townOn(clerk, now.day)) {
@@ -200,7 +200,7 @@ public final class TwinInk {
         return true;
     }
 
-    public int leave(int clerk, int sheet) {
+    public int leave(int clerk, int sheet) throws NoSuchElementException {
         needClerk(clerk);
         needSheet(sheet);
         if (now.place[sheet] != IN_HANDS + clerk) {
@@ -212,7 +212,7 @@ public final class TwinInk {
         return now.place[sheet];
     }
 
-    public int forge(int sheet, int side, int step) {
+    public int forge(int sheet, int side, int step) throws NoSuchElementException {
         needSheet(sheet);
         needBelow(side, 2);
         needBelow(step, STEPS);
@@ -226,7 +226,7 @@ public final class TwinInk {
         return edge[sheet];
     }
 
-    public int fire(int town) {
+    public int fire(int town) throws NoSuchElementException {
         needTown(town);
         int burning = now.archive(town);
         if (burning == 0) {
@@ -248,10 +248,10 @@ public final class TwinInk {
 
     // ---- what comes, if only days go by
 
-    public int then(int clerk, int days, int what) {
+    public int then(int clerk, int days, int what) throws NoSuchElementException, IllegalArgumentException {
         needClerk(clerk);
         needBelow(what, 2);
-        needDays(days, 0, AHEAD);
+        needBetween(days, 0, AHEAD);
         if (what == 0) {
             return told.townOn(clerk, now.day + days);
         }
@@ -259,13 +259,13 @@ public final class TwinInk {
         return ahead.known[clerk];
     }
 
-    public int where(int sheet, int days) {
+    public int where(int sheet, int days) throws NoSuchElementException, IllegalArgumentException {
         needSheet(sheet);
-        needDays(days, 0, AHEAD);
+        needBetween(days, 0, AHEAD);
         return now.townOf(sheet, days);
     }
 
-    public int first(int clerk, int word) {
+    public int first(int clerk, int word) throws NoSuchElementException {
         needClerk(clerk);
         needWord(word);
         lookAhead(0);
@@ -278,14 +278,14 @@ public final class TwinInk {
         return NONE;
     }
 
-    public int read(int days, int what) {
+    public int read(int days, int what) throws NoSuchElementException, IllegalArgumentException {
         needBelow(what, 2);
-        needDays(days, 0, AHEAD);
+        needBetween(days, 0, AHEAD);
         lookAhead(days);
         return what == 0 ? ahead.wordsKnown() : ahead.wordsSecret();
     }
 
-    public int mould(int sheet) {
+    public int mould(int sheet) throws NoSuchElementException {
         needSheet(sheet);
         lookAhead(0);
         for (int days = 1; days <= AHEAD; days++) {
@@ -297,7 +297,7 @@ public final class TwinInk {
         return NONE;
     }
 
-    public int meet(int sheet, int other) {
+    public int meet(int sheet, int other) throws NoSuchElementException {
         needSheet(sheet);
         needSheet(other);
         if (sheet == other) {
@@ -312,8 +312,8 @@ public final class TwinInk {
         return NONE;
     }
 
-    public int gathering(int days) {
-        needDays(days, 0, AHEAD);
+    public int gathering(int days) throws IllegalArgumentException {
+        needBetween(days, 0, AHEAD);
         int best = 0;
         int most = 0;
         for (int town = 0; town < TOWNS; town++) {
@@ -326,7 +326,7 @@ public final class TwinInk {
         return best;
     }
 
-    public int chain(int clerk, int word) {
+    public int chain(int clerk, int word) throws NoSuchElementException {
         needClerk(clerk);
         needWord(word);
         lookAhead(0);
@@ -340,8 +340,8 @@ public final class TwinInk {
         return NONE;
     }
 
-    public int wisest(int days) {
-        needDays(days, 0, AHEAD);
+    public int wisest(int days) throws IllegalArgumentException {
+        needBetween(days, 0, AHEAD);
         lookAhead(days);
         int best = NONE;
         int most = -1;
@@ -355,14 +355,14 @@ public final class TwinInk {
         return best;
     }
 
-    public int unread(int days) {
-        needDays(days, 0, AHEAD);
+    public int unread(int days) throws IllegalArgumentException {
+        needBetween(days, 0, AHEAD);
         lookAhead(days);
         return told.words - Integer.bitCount(ahead.wordsKnown());
     }
 
-    public int laid(int days) {
-        needDays(days, 1, AHEAD);
+    public int laid(int days) throws IllegalArgumentException {
+        needBetween(days, 1, AHEAD);
         lookAhead(0);
         int many = 0;
         for (int i = 0; i < days; i++) {
@@ -375,7 +375,7 @@ public final class TwinInk {
 
     // ---- edges
 
-    public int row(int i) {
+    public int row(int i) throws NoSuchElementException {
         edges.lookAt(now);
         int many = edges.layRow();
         if (i == NONE) {
@@ -385,7 +385,7 @@ public final class TwinInk {
         return edges.row[i];
     }
 
-    public int toForge(int left, int right) {
+    public int toForge(int left, int right) throws NoSuchElementException {
         needSheet(left);
         needSheet(right);
         if (left == right || now.place[left] == BURNT || now.place[right] == BURNT) {
@@ -394,7 +394,7 @@ public final class TwinInk {
         return Math.max(0, now.difference(left, right) - told.slack);
     }
 
-    public int toSave(int town) {
+    public int toSave(int town) throws NoSuchElementException {
         needTown(town);
         int archive = now.archive(town);
         int best = NONE;
@@ -423,7 +423,7 @@ public final class TwinInk {
         return sheets;
     }
 
-    public int odd(int what) {
+    public int odd(int what) throws NoSuchElementException {
         switch (what) {
             case 0:
                 edges.lookAt(now);
@@ -437,7 +437,7 @@ public final class TwinInk {
         }
     }
 
-    public int far(int left, int right) {
+    public int far(int left, int right) throws NoSuchElementException {
         needSheet(left);
         needSheet(right);
         return now.difference(left, right);
@@ -445,10 +445,10 @@ public final class TwinInk {
 
     // ---- rounds
 
-    public int company(int clerk, int other, int days) {
+    public int company(int clerk, int other, int days) throws NoSuchElementException, IllegalArgumentException {
         needClerk(clerk);
         needClerk(other);
-        needDays(days, 1, ROUNDS_AHEAD);
+        needBetween(days, 1, ROUNDS_AHEAD);
         int many = 0;
         for (int i = 0; i < days; i++) {
             if (told.townOn(clerk, now.day + i) == told.townOn(other, now.day + i)) {
@@ -458,8 +458,8 @@ public final class TwinInk {
         return many;
     }
 
-    public int together(int many) {
-        needDays(many, 1, MOST_CLERKS);
+    public int together(int many) throws IllegalArgumentException {
+        needBetween(many, 1, MOST_CLERKS);
         for (int days = 0; days <= ROUNDS_AHEAD; days++) {
             if (told.largestCompany(now.day + days) >= many) {
                 return days;
@@ -468,7 +468,7 @@ public final class TwinInk {
         return NONE;
     }
 
-    public int heir(int clerk) {
+    public int heir(int clerk) throws NoSuchElementException {
         needClerk(clerk);
         int best = NONE;
         int most = -1;
@@ -484,7 +484,7 @@ public final class TwinInk {
 
     // ---- what is heard
 
-    public int hear(int clerk, int word, int days, boolean knows) {
+    public int hear(int clerk, int word, int days, boolean knows) throws NoSuchElementException {
         needClerk(clerk);
         needWord(word);
         if (heard.many >= MOST_HEARD || days < 0 || days > MOST_HEARD_DAYS) {
@@ -499,7 +499,7 @@ public final class TwinInk {
         heard.clear();
     }
 
-    public int borne(int what) {
+    public int borne(int what) throws NoSuchElementException {
         needBelow(what, 3);
         if (what == 2) {
             lookAhead(0);
@@ -518,7 +518,7 @@ public final class TwinInk {
         return what == 0 ? many : least;
     }
 
-    public int ask(int what) {
+    public int ask(int what) throws NoSuchElementException {
         needBelow(what, 2);
         int pairs = gatherAnswers();
         int best = NONE;
@@ -578,9 +578,9 @@ public final class TwinInk {
 
     // ---- chances, games, years
 
-    public int fires(int word, int tenths) {
+    public int fires(int word, int tenths) throws NoSuchElementException, IllegalArgumentException {
         needWord(word);
-        needDays(tenths, 0, 10);
+        needBetween(tenths, 0, 10);
         int left = now.place[told.wordLeft[word]];
         int right = now.place[told.wordRight[word]];
         if (left == BURNT || right == BURNT) {
@@ -597,7 +597,7 @@ public final class TwinInk {
         return (100 - safe) * 100;
     }
 
-    public int game(int clerk, int other, int what) {
+    public int game(int clerk, int other, int what) throws NoSuchElementException, IllegalArgumentException {
         needClerk(clerk);
         needClerk(other);
         needBelow(what, 2);
@@ -633,9 +633,9 @@ public final class TwinInk {
         return 3 * Integer.bitCount(news) - 2 * Integer.bitCount(otherNews);
     }
 
-    public int years(int seed, int n, int what) {
+    public int years(int seed, int n, int what) throws NoSuchElementException, IllegalArgumentException {
         needBelow(what, 3);
-        needDays(n, 0, AHEAD);
+        needBetween(n, 0, AHEAD);
         lookAhead(0);
         draws.seed = seed;
         for (int i = 0; i < n; i++) {
@@ -720,7 +720,7 @@ public final class TwinInk {
         }
     }
 
-    private static void needDays(int number, int least, int most) {
+    private static void needBetween(int number, int least, int most) {
         if (number < least || number > most) {
             throw new IllegalArgumentException("not so many");
         }
@@ -1653,7 +1653,7 @@ public final class TwinInk {
             return many;
         }
 
-        /** Marks with which sheets a row of all sheets of a set can begin; the answer is the largest such set's size. */
+        /** Marks with which sheets a row of just a set's sheets can begin; tells how many lie in the longest. */
         private int markBeginnings() {
             int most = 0;
             bySet[0] = 0;

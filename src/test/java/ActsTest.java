@@ -185,5 +185,48 @@ public final class ActsTest {
         x.restore();
         CHECK.is("another image in its place", x.count(4), 0);
         CHECK.is("with its own ACTS", x.count(9), 1);
+        imageOfMuch();
+    }
+
+    private static void imageOfMuch() {
+        TwinInk x = office();
+        for (int i = 0; i < 45; i++) {
+            x.days(1);
+        }
+        x.hear(0, 0, 0, true);
+        x.hear(1, 1, 5, false);
+        x.image();
+        for (int i = 0; i < 7; i++) {
+            x.days(2);
+        }
+        x.forget();
+        x.hear(1, 1, 5, true);
+        x.hear(0, 0, 0, false);
+        CHECK.is("HEARD otherwise", x.borne(2), 0);
+        x.restore();
+        CHECK.is("HEARD as it was", x.borne(2), 1);
+        CHECK.is("40 ACTS", x.count(9), 40);
+        for (int day = 44; day >= 5; day--) {
+            x.undo();
+            CHECK.is("undone to the DAY", x.count(4), day);
+        }
+        Check.tell(x, "sheet 1 1 0;sheet 1 1 0;clerk 0;clerk 1;word 0 1;word 1 0;");
+        x.hear(0, 1, 7, true);
+        x.hear(1, 0, 12, false);
+        x.image();
+        x.forget();
+        x.hear(1, 0, 12, false);
+        x.hear(0, 1, 0, true);
+        CHECK.is("HEARD of other days", x.borne(2), 0);
+        x.restore();
+        CHECK.is("HEARD of these days", x.borne(2), 1);
+        x.forget();
+        x.hear(0, 1, 0, false);
+        x.image();
+        x.forget();
+        x.hear(1, 0, 3, false);
+        x.restore();
+        x.days(1);
+        CHECK.is("HEARD of this CLERK", x.borne(2), 0);
     }
 }

@@ -116,6 +116,11 @@ public final class FaceTest {
                     || line.contains("throw new NoSuchElementException(\"");
                 CHECK.is(line.trim() + " is one of the document's", may, true);
             }
+            // All calls of a run share one room, so rows are made with the object and never by a call.
+            if (line.contains("new ") && !line.contains("throw new ")) {
+                boolean isField = line.matches("(    private| {8}(private )?final) .* = new .*;");
+                CHECK.is(line.trim() + " is made with the object", isField, true);
+            }
         }
         CHECK.is("signs 1 to 127 alone", text.chars().allMatch(c -> c > 0 && c < 128), true);
         methodsAreShort(code);

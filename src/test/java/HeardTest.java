@@ -66,6 +66,14 @@ public final class HeardTest {
         x.forget();
         x.hear(0, 0, 12, false);
         CHECK.is("not known in 12", x.borne(2), 1);
+        TwinInk atOnce = CHECK.of("sheet 1 1 0;sheet 1 1 0;clerk 0;word 0 1;");
+        atOnce.hear(0, 0, 0, true);
+        CHECK.is("known in 1, but not now", atOnce.borne(2), 0);
+        CHECK.is("not now by any pair", atOnce.borne(0), 0);
+        atOnce.forget();
+        atOnce.hear(0, 0, 0, false);
+        atOnce.hear(0, 0, 1, true);
+        CHECK.is("not now, but in 1", atOnce.borne(2), 1);
         CHECK.noSuch("borne(3)", () -> x.borne(3));
         CHECK.noSuch("borne(-1)", () -> x.borne(-1));
         bearers();

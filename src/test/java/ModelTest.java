@@ -101,7 +101,7 @@ public final class ModelTest {
             case "mould": return new Object[] {s};
             case "meet": case "toForge": case "far": return new Object[] {s, near(sheets, wide)};
             case "gathering": case "wisest": case "unread": return new Object[] {near(41, wide)};
-            case "row": return new Object[] {random.nextInt(5) - 1};
+            case "row": return new Object[] {near(6, wide) - 1};
             case "hear":
                 return hearsay(c, near(words, wide), near(13, wide));
             case "borne": return new Object[] {near(3, wide)};
@@ -129,6 +129,9 @@ public final class ModelTest {
     }
 
     private int near(int many, int wide) {
+        if (wide > 0 && random.nextInt(8) == 0) {
+            return random.nextBoolean() ? Integer.MAX_VALUE : Integer.MIN_VALUE;
+        }
         return random.nextInt(Math.max(1, many + 2 * wide)) - wide;
     }
 

@@ -140,6 +140,8 @@ public final class RuleTest {
         x.take(0, 0);
         CHECK.is("borne", x.mould(0), 1);
         CHECK.is("not borne", x.mould(1), NONE);
+        x.days(1);
+        CHECK.is("borne is 1, so step 0 changes", x.sheet(0, 1), 7);
         TwinInk y = CHECK.of(base + "town=2;");
         y.take(0, 0);
         CHECK.is("town of a borne sheet", y.mould(0), 2);

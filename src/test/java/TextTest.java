@@ -109,6 +109,13 @@ public final class TextTest {
         CHECK.fault("sheets 0 0 0;", 1, 0);
         CHECK.fault("she et 0 0 0;", 1, 0);
         CHECK.fault("Sheet 0 0 0;", 1, 0);
+        CHECK.fault("sheetz 0 0 0;", 1, 0);
+        CHECK.fault("sheeta 0 0 0;", 1, 0);
+        CHECK.fault("sheet`0 0 0;", 1, 5);
+        CHECK.fault("sheet{0 0 0;", 1, 5);
+        for (String like : new String[] {"xheet", "xlerk", "xord", "xlack", "xays", "xoulds", "wore", "slac", "moulder"}) {
+            CHECK.fault(like + " 0 0 0;", 1, 0);
+        }
         CHECK.fault("slack;", 1, 5);
         CHECK.fault("slack 1 1;", 1, 8);
         CHECK.fault("slack\t1;", 1, 5);
