@@ -20,6 +20,13 @@ final class Check {
         is(call, got ? 1 : 0, due ? 1 : 0);
     }
 
+    void is(String call, String got, String due) {
+        if (!got.equals(due)) {
+            wrong++;
+            System.out.println(call + " answered\n" + got + "\ndue is\n" + due);
+        }
+    }
+
     void noSuch(String call, Call c) {
         isThrown(call, c, NoSuchElementException.class);
     }
