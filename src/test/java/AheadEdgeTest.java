@@ -341,6 +341,14 @@ public final class AheadEdgeTest {
         CHECK.is("without BURNT ones' WORDS", all.toRead(), 0b011000011);
         all.fire(0);
         CHECK.is("nothing is left", all.toRead(), 0);
+        TwinInk twelve = CHECK.of("sheet 1 1 0;sheet 1 1 1;sheet 1 1 2;".repeat(3) + twelveWords());
+        CHECK.is("twelve WORDS of seven SHEETS", twelve.toRead(), 0b001111111);
+        twelve.forge(3, 1, 7);
+        CHECK.is("without the left one of three", twelve.toRead(), 0b001110111);
+        twelve.forge(6, 0, 7);
+        CHECK.is("the last three WORDS with what is forged alike alone", twelve.toRead(), 0b001111111);
+        twelve.forge(3, 1, 7);
+        CHECK.is("none of the last four WORDS", twelve.toRead(), 0b000111111);
     }
 
     /** "A CHAIN: in how many DAYS (0 to 40) a CLERK would KNOW a WORD first, if on each DAY, ahead of all LAYS, .. told" */

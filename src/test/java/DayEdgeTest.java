@@ -341,6 +341,14 @@ public final class DayEdgeTest {
         CHECK.is("borne, in town 0", x.sheet(1, 1), 128);
         x.days(1);
         CHECK.is("borne, in town 3", x.sheet(1, 1), 128 | 4);
+        for (int value = 0; value <= 1; value++) {
+            TwinInk y = CHECK.of("sheet 1 1 0;sheet 1 1 0;clerk 0;moulds borne=" + value + ";");
+            y.take(0, 1);
+            CHECK.is("borne=" + value + ", if nobody bears it", y.mould(0), value == 0 ? 1 : NONE);
+            CHECK.is("borne=" + value + ", if a CLERK bears it", y.mould(1), value == 1 ? 1 : NONE);
+            y.leave(0, 1);
+            CHECK.is("borne=" + value + ", if it was left", y.mould(1), value == 0 ? 1 : NONE);
+        }
         CHECK.is("day 39", CHECK.of("sheet 1 1 0;moulds day=39;").mould(0), 40);
     }
 
@@ -562,6 +570,51 @@ public final class DayEdgeTest {
         y.days(3);
         CHECK.is("in place of another one", State.restored(y), other);
         imageOfForty();
+        imageOfHeard();
+    }
+
+    /** "what is HEARD" is kept with its CLERK, WORD and DAYS, and whether one KNOWS it. */
+    private static void imageOfHeard() {
+        String text = "sheet 1 1 0;sheet 1 1 0;sheet 1 1 1;sheet 1 1 1;clerk 0;clerk 1;word 0 1;word 2 3;lays day=5;";
+        for (int i = 0; i < 16; i++) {
+            int clerk = i & 1;
+            int word = i >> 1 & 1;
+            int days = (i >> 2 & 1) == 1 ? 6 : 5;
+            boolean knows = (i >> 3 & 1) == 1;
+            TwinInk x = CHECK.of(text);
+            x.hear(clerk, word, days, knows);
+            boolean isSo = (clerk == word && days == 6) == knows;
+            CHECK.is("so", x.borne(2), isSo ? 1 : 0);
+            x.image();
+            x.forget();
+            x.restore();
+            CHECK.is("HEARD again", x.count(10), 1);
+            CHECK.is("so again", x.borne(2), isSo ? 1 : 0);
+            x.forget();
+            // What is heard in its place differs by one of its four parts from something that would be so.
+            x.hear(isSo ? 1 - clerk : 0, isSo ? word : 0, isSo ? days : 6, isSo ? knows : true);
+            CHECK.is("another in its place", x.count(10), 1);
+            x.restore();
+            CHECK.is("as the image", x.borne(2), isSo ? 1 : 0);
+            for (int part = 0; part < 4; part++) {
+                x.forget();
+                x.hear(part == 0 ? 1 - clerk : clerk, part == 1 ? 1 - word : word, part == 2 ? 11 - days : days,
+                    part == 3 ? !knows : knows);
+                x.restore();
+                CHECK.is("as the image, part " + part, x.borne(2), isSo ? 1 : 0);
+            }
+        }
+        TwinInk full = CHECK.of(text);
+        for (int i = 0; i < 8; i++) {
+            full.hear(0, 0, i, i > 5);
+        }
+        full.image();
+        full.forget();
+        full.image();
+        full.hear(0, 0, 0, true);
+        full.restore();
+        CHECK.is("an image of nothing HEARD", full.count(10), 0);
+        CHECK.is("room for it", full.hear(0, 0, 12, true), 1);
     }
 
     private static TwinInk imaged(String text) {

@@ -8,6 +8,7 @@ public final class HeardEdgeTest {
         heard();
         forgotten();
         heardDays();
+        heardFromNowOn();
         bearers();
         bornePairs();
         without();
@@ -21,6 +22,7 @@ public final class HeardEdgeTest {
         yearsOfFires();
         yearsOfTaking();
         yearsOfForging();
+        yearsAmongBurntOnes();
         company();
         together();
         orphans();
@@ -95,6 +97,28 @@ public final class HeardEdgeTest {
         CHECK.is("both are so", x.borne(2), 1);
         x.hear(0, 0, 4, false);
         CHECK.is("one isn't", x.borne(2), 0);
+    }
+
+    /** "did the CLERK bear the SHEET from now on, all HEARD would be so": the DAYS are those from now on. */
+    private static void heardFromNowOn() {
+        for (int gone = 0; gone <= 14; gone++) {
+            for (int days = 0; days <= 12; days++) {
+                TwinInk x = CHECK.of(LEARNT + "13;");
+                if (gone > 0) {
+                    x.days(gone);
+                }
+                x.hear(0, 0, days, true);
+                CHECK.is("HEARD on DAY " + gone + " of " + days, x.borne(2), gone + days > 13 ? 1 : 0);
+                CHECK.is("by a pair, too", x.borne(0), gone + days > 13 ? 2 : 0);
+                TwinInk ahead = CHECK.of(LEARNT + "13;");
+                ahead.hear(0, 0, days, true);
+                if (gone > 0) {
+                    ahead.days(gone);
+                }
+                CHECK.is("HEARD ahead of DAY " + gone + " of " + days, ahead.borne(2), gone + days > 13 ? 1 : 0);
+                CHECK.is("HEARD still", ahead.count(10), 1);
+            }
+        }
     }
 
     /** "CLERKS and SHEETS (not BURNT, another bearer than it has)": how many, 0 to 54 */
@@ -191,6 +215,19 @@ public final class HeardEdgeTest {
         CHECK.is("three, and nothing by the fourth", x.ask(1), 4);
         CHECK.noSuch("what 2", () -> x.ask(2));
         CHECK.noSuch("what -1", () -> x.ask(-1));
+        // All 54 pairs: by each of eight sheets that clerk 5 might bear one knows another word, and nothing by the ninth.
+        StringBuilder full = new StringBuilder("sheet 1 1 3;" + "sheet 1 1 2;".repeat(8) + "clerk 0;".repeat(5) + "clerk 3;");
+        for (int sheet = 1; sheet <= 8; sheet++) {
+            full.append("word 0 ").append(sheet).append(';');
+        }
+        TwinInk all = CHECK.of(full.toString());
+        CHECK.is("54 pairs", all.borne(0), 54);
+        CHECK.is("the last CLERK", all.ask(0), 5);
+        CHECK.is("nine by the last CLERK", all.ask(1), 9);
+        all.hear(5, 7, 12, true);
+        CHECK.is("one pair is left", all.borne(1), 58);
+        CHECK.is("the least CLERK then", all.ask(0), 0);
+        CHECK.is("one by each", all.ask(1), 1);
     }
 
     /** "what one KNOWS in 6 DAYS" */
@@ -201,6 +238,12 @@ public final class HeardEdgeTest {
             TwinInk heard = CHECK.of("sheet 1 1 0;sheet 1 1 1;clerk 0;word 0 1;lays day=" + day + ";");
             heard.hear(0, 0, 12, true);
             CHECK.is("laid on DAY " + day + ", HEARD of the twelfth", heard.ask(1), day < 12 ? 1 : 0);
+            // What is HEARD of a later DAY moves the six DAYS no more than what is HEARD of this one.
+            for (int days = 0; days <= 12; days++) {
+                TwinInk other = CHECK.of("sheet 1 1 0;sheet 1 1 1;sheet 4 8 2;clerk 0;word 0 1;word 2 1;lays day=" + day + ";");
+                other.hear(0, 1, days, false);
+                CHECK.is("laid on DAY " + day + ", HEARD of another WORD in " + days, other.ask(1), day < 6 ? 2 : 1);
+            }
         }
     }
 
@@ -383,6 +426,32 @@ public final class HeardEdgeTest {
         }
     }
 
+    /** "a DRAW of SHEETS": of all that there are, BURNT ones too, which changes nothing. */
+    private static void yearsAmongBurntOnes() {
+        int forged = 0;
+        for (int i = 0; i < 300; i++) {
+            int[] seed = {seedOf(i)};
+            int act = draw(seed, 6);
+            int sheet = draw(seed, 4);
+            int step = draw(seed, 8);
+            boolean isForged = act == 2 && sheet == 3;
+            forged += isForged ? 1 : 0;
+            TwinInk x = CHECK.of("sheet 0 0 3;sheet 0 0 3;sheet 0 " + (1 << step) + " 0;sheet 0 0 0;clerk 0;word 2 3;");
+            x.fire(3);
+            CHECK.is("WORDS by " + seedOf(i) + " with BURNT ones", x.years(seedOf(i), 1, 0), isForged ? 1 : 0);
+        }
+        CHECK.is("some seeds forge the last SHEET", forged > 0, true);
+        // All are burnt: nothing can be lost, taken or read, and the true ones stay as they are.
+        TwinInk x = CHECK.of("sheet 1 1 0;sheet 1 1 0;clerk 0;word 0 1;");
+        x.fire(0);
+        for (int i = 0; i < 20; i++) {
+            for (int what = 0; what < 3; what++) {
+                CHECK.is("all are BURNT", x.years(seedOf(i), 40, what), 0);
+            }
+        }
+        CHECK.is("the true LEFT EDGE", x.sheet(0, 0), 1);
+    }
+
     private static int leastIsBorne(int from) {
         int[] seed = {from};
         int[] left = {1, 2, 2};
@@ -441,6 +510,12 @@ public final class HeardEdgeTest {
             for (int many = 1; many <= 6; many++) {
                 CHECK.is(many + " of " + clerks, x.together(many), many <= clerks ? 0 : NONE);
             }
+        }
+        for (int town = 0; town < 4; town++) {
+            int other = (town + 1) % 4;
+            TwinInk x = CHECK.of("clerk " + other + " " + town + ";clerk " + town + ";clerk " + (town + 2) % 4 + " " + town + ";");
+            CHECK.is("two in TOWN " + town, x.together(2), 1);
+            CHECK.is("three in TOWN " + town, x.together(3), 1);
         }
         TwinInk late = CHECK.of("clerk 0 0 3;clerk 1 1 1 3;clerk 2 2 2 2 3;");
         CHECK.is("in 59", late.together(3), 59);

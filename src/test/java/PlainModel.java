@@ -865,7 +865,8 @@ final class PlainModel {
 
     private List<Integer> longest(List<Integer> row) {
         List<Integer> best = row;
-        for (int s = 0; s < now.sheets.size(); s++) {
+        // A row of all SHEETS can't be outdone by those that would be tried behind it.
+        for (int s = 0; s < now.sheets.size() && best.size() < now.sheets.size(); s++) {
             boolean can = row.isEmpty() ? !now.sheets.get(s).burnt()
                 : fits(now, row.get(row.size() - 1), s) && !row.contains(s);
             if (can) {

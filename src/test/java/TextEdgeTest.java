@@ -34,6 +34,8 @@ public final class TextEdgeTest {
         nots();
         parts();
         allAnew();
+        officeByOffice();
+        ruleByRule();
         CHECK.end();
     }
 
@@ -550,5 +552,66 @@ public final class TextEdgeTest {
         CHECK.is("without MOULDS never", x.sheet(0, 1), 3);
         CHECK.is("an office of nothing", Check.tell(x, ""), 0);
         CHECK.is("is as a new object", State.of(x), State.of(new TwinInk()));
+    }
+
+    /** "all anew": many offices one behind the other, with refused ones between them, each as by a new object. */
+    private static void officeByOffice() {
+        String[] texts = {
+            "sheet 1 1 0;sheet 1 1 0;sheet 2 2 3;clerk 0 1 2;clerk 3 3;word 0 1;word 1 0;slack 2;lays day<3;moulds sheet+1;",
+            "sheet 5 5 1;sheet 5 5 1;clerk 1;clerk 1 2 3 0 1 2;word 1 0;lays known+2<2*(day+1);",
+            "clerk 2 0;sheet 3 3 2;sheet 3 3 2;word 0 1;moulds 8;",
+            "sheet 9 8 0;",
+            "slack 8;sheet 0 255 0;sheet 0 255 1;clerk 0 1;word 0 1;lays 0;",
+            "",
+            "sheet 7 7 3;sheet 7 7 3;clerk 3;clerk 3 0;clerk 0 3;word 1 0;moulds day=2 and sheet;"};
+        String[] refused = {"sheet 1 1 1;clerk 3 3 3 3;slack 7;lays 0;moulds 5;;", "clerk 0 0 0 0 0 0 0;", "lays 1+;", "slack 5"};
+        for (int shift = 1; shift < texts.length; shift++) {
+            TwinInk x = new TwinInk();
+            for (int i = 0; i < 8; i++) {
+                String text = texts[(i * shift + i / 3) % texts.length];
+                CHECK.is("office of '" + text + "'", Check.tell(x, text), 0);
+                TwinInk due = CHECK.of(text);
+                CHECK.is("'" + text + "' anew", tellsOfDays(x), tellsOfDays(due));
+                CHECK.is("a refused text", Check.tell(x, refused[i % 4]) != 0, true);
+            }
+        }
+    }
+
+    /** A shorter rule leaves nothing of a longer one that stood in its place two texts ahead. */
+    private static void ruleByRule() {
+        String sheets = "sheet 1 1 0;sheet 1 1 0;clerk 0;word 0 1;";
+        for (String longer : new String[] {"not 1", "1 and 0", "1-1", "not(1+1)", "0*2/3"}) {
+            TwinInk x = new TwinInk();
+            for (String rule : new String[] {longer, "0", "1", longer, longer, "1", "2", "0"}) {
+                boolean lays = rule.equals("1") || rule.equals("2");
+                CHECK.is("lays " + rule, Check.tell(x, sheets + "lays " + rule + ";"), 0);
+                CHECK.is("FIRST by lays " + rule + " behind " + longer, x.first(0, 0), lays ? 1 : NONE);
+                CHECK.is("moulds " + rule, Check.tell(x, sheets + "moulds " + rule + ";"), 0);
+                CHECK.is("MOULD by moulds " + rule + " behind " + longer, x.mould(1), lays ? 1 : NONE);
+                CHECK.is("without LAYS always", x.first(0, 0), 1);
+            }
+        }
+    }
+
+    /** What is told of clerks, words and both rules in some days, few enough calls for eight offices of one object. */
+    private static String tellsOfDays(TwinInk x) {
+        StringBuilder b = new StringBuilder();
+        for (int what = 0; what <= 3; what++) {
+            b.append(x.count(what)).append(' ');
+        }
+        for (int clerk = 0; clerk < x.count(1); clerk++) {
+            b.append(x.clerk(clerk, 3)).append(x.clerk(clerk, 0)).append(' ');
+        }
+        for (int days = 1; days <= 6; days++) {
+            b.append(x.read(days, 0)).append(' ');
+        }
+        x.days(6);
+        for (int sheet = 0; sheet < x.count(0); sheet++) {
+            b.append(x.sheet(sheet, 0)).append(' ').append(x.sheet(sheet, 1)).append(' ').append(x.sheet(sheet, 4)).append(' ');
+        }
+        for (int clerk = 0; clerk < x.count(1); clerk++) {
+            b.append(x.clerk(clerk, 1)).append(x.clerk(clerk, 0)).append(' ');
+        }
+        return b.append(x.odd(2)).append(x.count(4)).toString();
     }
 }
