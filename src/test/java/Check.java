@@ -49,16 +49,29 @@ final class Check {
         System.out.println(call + " answered " + got + ", due is " + due.getSimpleName());
     }
 
+    /** The twenty bytes from a place of a text on, as the numbers that feed() takes; blanks behind its end. */
+    static int[] numbersAt(String text, int at) {
+        int[] n = new int[5];
+        for (int i = 0; i < 20; i++) {
+            int c = at + i < text.length() ? text.charAt(at + i) & 255 : ' ';
+            n[i / 4] = n[i / 4] << 8 | c;
+        }
+        return n;
+    }
+
+    /** The answer is the last feed()'s. */
+    static int feed(TwinInk x, String text) {
+        int tape = x.count(11);
+        for (int at = 0; at < text.length(); at += 20) {
+            int[] n = numbersAt(text, at);
+            tape = x.feed(n[0], n[1], n[2], n[3], n[4]);
+        }
+        return tape;
+    }
+
     /** Tells the text; the answer is office()'s. */
     static int tell(TwinInk x, String text) {
-        for (int at = 0; at < text.length(); at += 20) {
-            int[] n = new int[5];
-            for (int i = 0; i < 20; i++) {
-                int c = at + i < text.length() ? text.charAt(at + i) : ' ';
-                n[i / 4] = n[i / 4] << 8 | c;
-            }
-            x.feed(n[0], n[1], n[2], n[3], n[4]);
-        }
+        feed(x, text);
         return x.office(text.length());
     }
 

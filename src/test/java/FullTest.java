@@ -59,16 +59,8 @@ public final class FullTest {
 
         private void tell(String text) throws Exception {
             for (int at = 0; at < text.length(); at += 20) {
-                Object[] five = new Object[5];
-                for (int i = 0; i < 5; i++) {
-                    int n = 0;
-                    for (int j = 0; j < 4; j++) {
-                        int p = at + 4 * i + j;
-                        n = n << 8 | (p < text.length() ? text.charAt(p) : ' ');
-                    }
-                    five[i] = n;
-                }
-                same("feed", five);
+                int[] n = Check.numbersAt(text, at);
+                same("feed", n[0], n[1], n[2], n[3], n[4]);
             }
             same("office", text.length());
             CHECK.is("WORDS of '" + text + "'", ink.count(2), 12);

@@ -148,16 +148,8 @@ public final class ModelTest {
         // Whatever a random feed left upon the tape goes first, as a text with a fault.
         boolean agree = ink.count(11) == 0 || same("office", ink.count(11));
         for (int at = 0; at < text.length() && agree; at += 20) {
-            Object[] five = new Object[5];
-            for (int i = 0; i < 5; i++) {
-                int n = 0;
-                for (int j = 0; j < 4; j++) {
-                    int p = at + 4 * i + j;
-                    n = n << 8 | (p < text.length() ? text.charAt(p) & 255 : ' ');
-                }
-                five[i] = n;
-            }
-            agree = same("feed", five);
+            int[] n = Check.numbersAt(text, at);
+            agree = same("feed", n[0], n[1], n[2], n[3], n[4]);
         }
         log.add("text " + text);
         agree = agree && same("office", text.length()) && same("fault");

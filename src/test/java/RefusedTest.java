@@ -229,13 +229,7 @@ public final class RefusedTest {
     private static TwinInk fullTape() {
         TwinInk x = new TwinInk();
         String text = " ".repeat(692) + "slack 7;";
-        for (int at = 0; at < 700; at += 20) {
-            int[] n = new int[5];
-            for (int i = 0; i < 20; i++) {
-                n[i / 4] = n[i / 4] << 8 | text.charAt(at + i);
-            }
-            CHECK.is("feed", x.feed(n[0], n[1], n[2], n[3], n[4]), at + 20);
-        }
+        CHECK.is("the last feed()", Check.feed(x, text), 700);
         return x;
     }
 

@@ -104,13 +104,7 @@ public final class TextEdgeTest {
 
     private static TwinInk fed(String text) {
         TwinInk x = new TwinInk();
-        for (int at = 0; at < text.length(); at += 20) {
-            int[] n = new int[5];
-            for (int i = 0; i < 20; i++) {
-                n[i / 4] = n[i / 4] << 8 | text.charAt(at + i);
-            }
-            x.feed(n[0], n[1], n[2], n[3], n[4]);
-        }
+        Check.feed(x, text);
         return x;
     }
 
