@@ -4,8 +4,8 @@ import java.util.ArrayList;
 import java.util.List;
 
 /**
- * The full case: nine SHEETS, six CLERKS, twelve WORDS, 40 ACTS and 8 HEARD at once, and every question with every
- * argument that is let in, held beside PlainModel.
+ * The full case: nine SHEETS, six CLERKS, twelve WORDS, 40 ACTS and 8 HEARD at once, and every question with the
+ * arguments that are let in (of row, years and company some of them), held beside PlainModel.
  */
 public final class FullTest {
     private static final Check CHECK = new Check();
