@@ -9,21 +9,16 @@ import java.util.Arrays;
 import java.util.List;
 import java.util.Set;
 import java.util.TreeSet;
+import java.util.regex.Matcher;
+import java.util.regex.Pattern;
 
 /** The public face is the document's and no more, and the source keeps to what LANGUAGE.md leaves. */
 public final class FaceTest {
     private static final Check CHECK = new Check();
 
-    private static final String[] FACE = {
-        "int feed(int,int,int,int,int)", "int office(int)", "int fault()", "int count(int)", "int sheet(int,int)",
-        "int clerk(int,int)", "int word(int,int)", "int town(int,int)", "int days(int)", "boolean take(int,int)",
-        "int leave(int,int)", "int forge(int,int,int)", "int fire(int)", "int undo()", "int then(int,int,int)",
-        "int where(int,int)", "int first(int,int)", "int read(int,int)", "int mould(int)", "int meet(int,int)",
-        "int gathering(int)", "int row(int)", "int toForge(int,int)", "int toSave(int)", "int toRead()",
-        "int chain(int,int)", "int hear(int,int,int,boolean)", "void forget()", "int borne(int)", "int ask(int)",
-        "int fires(int,int)", "int game(int,int,int)", "int years(int,int,int)", "int wisest(int)",
-        "int company(int,int,int)", "int together(int)", "int odd(int)", "int far(int,int)", "int unread(int)",
-        "int heir(int)", "int laid(int)", "void image()", "boolean restore()"};
+    private static final Path DOCUMENT = Path.of("../shared/DOC.md");
+    private static final Pattern METHOD = Pattern.compile("    public (int|boolean|void) (\\w+)\\((.*)\\)(?: throws (.*))?;");
+    private static final int METHODS = 43;
 
     public static void main(String[] args) throws Exception {
         members();
@@ -36,7 +31,8 @@ public final class FaceTest {
 
     private static void members() throws Exception {
         CHECK.is("the class is public and final", TwinInk.class.getModifiers(), Modifier.PUBLIC | Modifier.FINAL);
-        Set<String> due = new TreeSet<>(Arrays.asList(FACE));
+        Set<String> due = face();
+        CHECK.is("methods of the document", due.size(), METHODS);
         Set<String> names = new TreeSet<>();
         for (Method m : TwinInk.class.getDeclaredMethods()) {
             if (Modifier.isPublic(m.getModifiers())) {
@@ -68,12 +64,30 @@ public final class FaceTest {
         CHECK.is("NONE is final", Modifier.isFinal(TwinInk.class.getField("NONE").getModifiers()), true);
     }
 
-    private static String shape(Method m) {
-        List<String> types = new ArrayList<>();
-        for (Class<?> type : m.getParameterTypes()) {
-            types.add(type.getSimpleName());
+    /** The methods that stand in the document's face, as shape() tells them. */
+    private static Set<String> face() throws Exception {
+        Set<String> all = new TreeSet<>();
+        for (String line : Files.readAllLines(DOCUMENT)) {
+            Matcher m = METHOD.matcher(line);
+            if (m.matches()) {
+                String types = m.group(3).replaceAll(" \\w+(,|$)", "$1");
+                all.add(m.group(1) + " " + m.group(2) + "(" + types + ") throws " + (m.group(4) == null ? "" : m.group(4)));
+            }
         }
-        return m.getReturnType().getSimpleName() + " " + m.getName() + "(" + String.join(",", types) + ")";
+        return all;
+    }
+
+    private static String shape(Method m) {
+        return m.getReturnType().getSimpleName() + " " + m.getName() + "(" + names(m.getParameterTypes()) + ") throws "
+            + names(m.getExceptionTypes());
+    }
+
+    private static String names(Class<?>[] types) {
+        List<String> all = new ArrayList<>();
+        for (Class<?> type : types) {
+            all.add(type.getSimpleName());
+        }
+        return String.join(", ", all);
     }
 
     private static void inside() {

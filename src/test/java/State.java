@@ -24,13 +24,14 @@ final class State {
     /** How it is ahead of each ACT that is kept; the object's ACTS are undone by it. */
     static String undone(TwinInk x) {
         StringBuilder b = new StringBuilder();
+        int sheets = x.count(0);
         for (int i = 0; i <= 41; i++) {
             int left = x.undo();
             if (left == TwinInk.NONE) {
                 return b.toString();
             }
             b.append(left).append(": day ").append(x.count(4)).append(" known ").append(x.count(7));
-            for (int sheet = 0; sheet < x.count(0); sheet++) {
+            for (int sheet = 0; sheet < sheets; sheet++) {
                 b.append(" sheet ").append(x.sheet(sheet, 0)).append(' ').append(x.sheet(sheet, 1));
                 b.append(' ').append(x.sheet(sheet, 2)).append(' ').append(x.sheet(sheet, 3));
             }
